@@ -106,6 +106,10 @@ public final class ActsTest {
         due.is("no DAY went by", Due.yearOf(y, 3, 0, 8, 0, 9, 1, 8), 9);
         due.is("a DAY went by", Due.yearOf(y, 3, 0, 8, 1, 9, 1, 8), 11);
         due.is("no MORNING 2", Due.yearOf(y, 32), -9);
+        MornMarket z = Due.of("m1,00,00,00,00;c309;c207;c105;c003");
+        due.is("JOY of all four", Due.yearOf(z, 3, 0, 8, 1, 8, 2, 8, 3, 8), 24);
+        Due.told(z, "m1,00,00;c009;c107");
+        due.is("JOY of the two that there are", Due.yearOf(z, 3, 0, 8, 1, 8), 16);
     }
 
     private static void wrong(MornMarket x, int first, int... cells) {
@@ -212,5 +216,12 @@ public final class ActsTest {
         }
         Due.row(x, 3, Due.BYTES, sleeps);
         faultOfYear(x, 3, 0, 0, 20, 90, 0);
+        // What stands behind the last pair is no part of the year, even at the row's very end.
+        Due.row(x, 3, Due.BYTES, 2, 9, 7, 7, 7);
+        faultOfYear(x, 3, 0, 0, 1, 2, 0);
+        x.sheet(3, 0, 60);
+        for (int i = 20; i < 60; i++) x.put(3, i, i % 2 == 0 ? 4 : 9);
+        faultOfYear(x, 3, 0, 20, 20, 80, 0);
+        faultOfYear(x, 3, 0, 21, 20, -13, 3);
     }
 }

@@ -160,6 +160,10 @@ public final class PlansTest {
         debtIs(x, 0, 11, 4, 1);
         debtIs(x, 0, 36, 0, 13);
         debtIs(x, 0, 37, -9, -9);
+        // Without 0 and 1, or without 2 alone, FEAST is 11: the fewest MORNINGS, though not the least set.
+        debtIs(Due.of("m1,00;c002;c002;c004;c009"), 0, 4, 11, 4);
+        // FEAST goes ahead of how few they are: without 0 and 1 it is 4, without 2 alone 3.
+        debtIs(Due.of("m1,00;c001;c001;c002;c003"), 0, 2, 4, 3);
         due.is("no PERSON", x.debt(2, 1000, 0), -1);
         due.is("no PERSON", x.debt(-1, 0, 0), -1);
         due.is("v -1", x.debt(0, -1, 0), -2);
