@@ -82,8 +82,9 @@ public final class ActsTest {
 
     private static void year(MornMarket x, int[] answers, int... cells) {
         int[] whats = {0, 1, 2, 3, 10, 11, 12, 13, 20, 21, 22, 23, 30, 31, 32, 33, 34, 35};
+        Due.row(x, 1, Due.INTS, cells);
         for (int k = 0; k < whats.length; k++) {
-            due.is("year asked " + whats[k], Due.yearOf(x, whats[k], cells), answers[k]);
+            due.is("year asked " + whats[k], x.year(1, Due.INTS, 0, cells.length / 2, whats[k]), answers[k]);
             due.is("fault behind it", x.fault(), 0);
         }
     }

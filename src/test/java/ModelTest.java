@@ -7,14 +7,13 @@ public final class ModelTest {
 
     public static void main(String[] args) {
         Random random = new Random(20261118);
-        for (int k = 0; k < 600; k++) {
+        for (int k = 0; k < 2400; k++) {
             String text = textBy(random);
             MornMarket x = Due.of(text);
             Model model = new Model(text);
-            for (int act = 0; act < 12; act++) {
-                acts(random, x, model);
-                if (act % 3 == 2) compare(random, text, x, model);
-            }
+            // One comparison an object, as nothing is promised behind its 512th call.
+            for (int act = 0; act < 3 + 3 * (k % 4); act++) acts(random, x, model);
+            compare(random, text, x, model);
         }
         due.end();
     }
@@ -117,8 +116,10 @@ public final class ModelTest {
             cells[k + 1] = new int[] {random.nextInt(4), random.nextInt(2), 8, 9}[random.nextInt(4)];
             if (random.nextInt(60) == 0) cells[k + random.nextInt(2)] = random.nextInt(14) - 2;
         }
+        Due.row(x, 1, Due.INTS, cells);
         for (int what : WHATS) {
-            due.is(of + "year " + java.util.Arrays.toString(cells) + " " + what, Due.yearOf(x, what, cells), model.year(cells, what));
+            String call = of + "year " + java.util.Arrays.toString(cells) + " " + what;
+            due.is(call, x.year(1, Due.INTS, 0, cells.length / 2, what), model.year(cells, what));
         }
     }
 }

@@ -3,22 +3,40 @@ import java.util.Random;
 /** Calls with any arguments in any state: none throws, and what is refused changes nothing that can be asked. */
 public final class NeverThrowsTest {
     private static final Due due = new Due();
+    /** With the calls that Due.lived() makes, no more than the 512 that are promised. */
+    private static final int CALLS_OF_A_LIFE = 440, CALLS_AHEAD_AT_MOST = 150;
     private static final int[] EDGES = {-2147483648, -2147483647, -101, -61, -2, -1, 0, 1, 2, 3, 4, 5, 6, 7, 8, 9, 10, 13, 20, 31, 35,
         36, 41, 59, 60, 61, 99, 100, 999, 1000, 2147483646, 2147483647};
 
     public static void main(String[] args) {
-        Random random = new Random(34);
-        for (int k = 0; k < 300; k++) {
-            MornMarket x = random.nextInt(4) == 0 ? new MornMarket() : Due.of(Due.SIX);
-            for (int n = 0; n < 512; n++) {
-                int call = random.nextInt(34);
-                String before = n % 8 == 0 ? all(x) : null;
-                long answer = calls(x, call, random);
-                boolean refused = answer == Due.LOST || answer <= -10 || (answer < 0 && answer > -9 && call < 31);
-                if (before != null && refused && !before.equals(all(x))) due.is("state behind call " + call, 1, 0);
-            }
-        }
+        for (int k = 0; k < 300; k++) liveOn(k, CALLS_OF_A_LIFE);
+        for (int k = 0; k < 1500; k++) refusedChangesNothing(k);
         due.end();
+    }
+
+    /** The same seed lives the same life, so twins can be made of it. */
+    private static MornMarket liveOn(int seed, int calls) {
+        Random random = new Random(seed);
+        MornMarket x = random.nextInt(4) == 0 ? new MornMarket() : Due.lived();
+        for (int n = 0; n < calls; n++) calls(x, random.nextInt(34), random);
+        return x;
+    }
+
+    private static void refusedChangesNothing(int seed) {
+        int ahead = seed % CALLS_AHEAD_AT_MOST;
+        int call = seed % 31;
+        long answer = calls(liveOn(seed, ahead), call, new Random(-seed));
+        boolean refused = answer == Due.LOST || answer <= -10 || (answer < 0 && answer > -9);
+        if (!refused) return;
+        boolean namesFaults = call == 0 || call == 10 || call == 22 || call == 24 || call == 25 || call == 28 || call == 30;
+        Twins twins = new Twins(due, () -> liveOn(seed, ahead));
+        String told = "call " + call + " of life " + seed;
+        if (!namesFaults) {
+            twins.same(told, x -> calls(x, call, new Random(-seed)), answer);
+        } else if (answer != Due.LOST) {
+            int fault = answer <= -11 && answer >= -14 ? (int) (-10 - answer) : 0;
+            twins.same(told, x -> calls(x, call, new Random(-seed)), answer, fault);
+        }
     }
 
     private static int any(Random random) {
@@ -68,25 +86,5 @@ public final class NeverThrowsTest {
             case 32: return x.fault();
             default: return x.market(0, 0, 0, 41);
         }
-    }
-
-    /** All that can be asked, but for fault(), which a refused call may change. */
-    private static String all(MornMarket x) {
-        StringBuilder all = new StringBuilder();
-        for (int what = 0; what < 5; what++) all.append(x.many(what)).append(' ');
-        for (int m = 0; m < 6; m++) {
-            for (int what = 0; what < 5; what++) all.append(x.ofMorning(m, what)).append(' ');
-            all.append(x.dews(m)).append(' ').append(x.kinds(m)).append(' ').append(x.takens(m)).append(' ');
-        }
-        for (int p = 0; p < 4; p++) {
-            for (int what = 0; what < 4; what++) all.append(x.ofPerson(p, what)).append(' ');
-        }
-        all.append(x.trace());
-        for (int k = 0; k < 4; k++) {
-            for (int lane = 0; lane < 3; lane++) {
-                for (int i = 0; i <= 60; i++) all.append(x.cell(k, i, lane)).append(' ').append(x.fault()).append(' ');
-            }
-        }
-        return all.toString();
     }
 }
