@@ -98,6 +98,7 @@ public final class ActsBoundsTest {
 
     private static void openUnknownAndState() {
         for (int m : Due.beyond(0, 5)) lived.same("open of MORNING " + m, x -> x.open(m), -1);
+        for (int m : new int[] {2 + 32, 3 + 32, 2 - 32, 3 + 256}) lived.same("UNKNOWN ahead of STATE: MORNING " + m, x -> x.open(m), -1);
         lived.same("OPENED today", x -> x.open(3), -3);
         lived.same("OPENED ahead of today", x -> x.open(2), -3);
         MornMarket x = Due.lived();

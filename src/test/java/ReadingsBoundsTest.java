@@ -109,12 +109,13 @@ public final class ReadingsBoundsTest {
         due.is("back of one of none", x.back(1), -2);
         due.is("back of none of none", x.back(0), 0);
         due.is("the first number again", x.reading(0, 1, 4), 0);
-        x.reading(0, 2, 9);
-        x.reading(0, 3, 2);
         x.back(1);
-        due.is("the last is taken back, not the false one", x.dews(0), 0);
-        x.back(1);
-        due.is("the last ones are taken back, not the first", x.dews(0), 32);
+        for (int k = 0; k < 4; k++) x.reading(0, 0, k < 2 ? 5 : 6);
+        due.is("DEWS by READINGS that can't all be", x.dews(0), 0);
+        due.is("back of the last one", x.back(1), 3);
+        due.is("the last but one stays", x.dews(0), 0);
+        due.is("back of one more", x.back(1), 2);
+        due.is("the first ones stay", x.dews(0), 32);
     }
 
     private static void setsOfNoMorning() {

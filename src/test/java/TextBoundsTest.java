@@ -122,12 +122,10 @@ public final class TextBoundsTest {
         for (int place = 0; place < GREATEST.length(); place++) codesAt(GREATEST, place);
         String least = "m1,00;p000";
         for (int place = 0; place < least.length(); place++) codesAt(least, place);
-        MornMarket x = new MornMarket();
-        Due.row(x, 0, Due.INTS, least.chars().toArray());
         for (int place = 0; place < least.length(); place++) {
             int code = least.charAt(place);
             for (int other : new int[] {-1, -code, code + 256, code + 65536, code - 256, Due.LEAST, Due.MOST}) {
-                x = new MornMarket();
+                MornMarket x = new MornMarket();
                 Due.row(x, 0, Due.INTS, least.chars().toArray());
                 x.put(0, place, other);
                 due.is("code " + other + " at " + place, x.market(0, Due.INTS, 0, 10), -100 - place);
@@ -168,7 +166,8 @@ public final class TextBoundsTest {
 
     private static void aFirstFaultChangesNothing() {
         Twins lived = new Twins(due, Due::lived);
-        String[] texts = {"", "x", "m7", "m7,11,12,13,14", "m7,11;p", "m7,11;p099;", "m7,11;p099;p099;p099;p099;p099;p099;", "m7,11;p0999"};
+        String[] texts = {"", "x", "m7", "m7;c000", "m7,11,12,13,14", "m7,11;p", "m7,11;p199", "m7,11;p099;",
+            "m7,11;p099;p099;p099;p099;p099;p099;", "m7,11;p0999"};
         for (String text : texts) {
             lived.with(x -> {
                 Due.row(x, 3, Due.INTS, text.chars().toArray());

@@ -292,6 +292,7 @@ public final class YearBoundsTest {
         wrong("a FIRST WRONG goes ahead of NONE", one, 1, 0, 8, 0, 8);
         MornMarket greatest = Due.of("m1,00,11,22,33;c000;c000;c000;c000;c000;c309");
         due.is("PURSE of the fourth PERSON", Due.yearOf(greatest, 13, 5, 8), 33);
+        due.is("JOY of all four", Due.yearOf(greatest, 3, 5, 8), 9);
         due.is("JOY of the fourth PERSON", Due.yearOf(greatest, 23, 5, 8), 9);
         due.is("OWNER of the sixth MORNING", Due.yearOf(greatest, 35, 5, 8), 3);
         due.is("all that is OPENED", Due.yearOf(greatest, 2, 0, 8, 1, 8, 2, 8, 3, 8, 4, 8, 5, 8), 63);
