@@ -245,8 +245,8 @@ public final class MornMarket {
                 if (now.feastWith(p, unspoilt) >= v) upper++;
             }
         }
-        // The lower number is a power of two, so halving both is all that least terms need.
-        while (lower > 1 && upper % 2 == 0) {
+        // The lower number is a power of two (one 2 for each MORNING), so halving both is all that least terms need.
+        for (int twos = 0; twos < MORNINGS_AT_MOST && upper % 2 == 0 && lower % 2 == 0; twos++) {
             upper /= 2;
             lower /= 2;
         }
