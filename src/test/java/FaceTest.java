@@ -108,6 +108,15 @@ public final class FaceTest {
         Matcher imports = Pattern.compile("import ([^;]*);").matcher(code);
         while (imports.find()) holds("import of " + imports.group(1), imports.group(1).equals("java.util.Arrays"));
         methodsAreShort(text.split("\n"));
+        callsMakeNothing(code.split("\n"));
+    }
+
+    /** All calls of a run live in one room, so objects and rows are made as fields and by the constructor alone. */
+    private static void callsMakeNothing(String[] lines) {
+        Pattern made = Pattern.compile("\\s+(private )?final \\S+ \\w+ = new .*;|\\s+sheets\\[k\\] = new Sheet\\(\\);");
+        for (String line : lines) {
+            if (line.matches(".*\\b(new|clone|copyOf|copyOfRange)\\b.*")) holds("made ahead of all calls: " + line, made.matcher(line).matches());
+        }
     }
 
     private static void methodsAreShort(String[] lines) {
